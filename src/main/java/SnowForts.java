@@ -54,8 +54,6 @@ public final class SnowForts {
     private final Reader reader = new Reader();
     private final YardText yardText = new YardText(reader);
     private final OrdersText ordersText = new OrdersText(reader);
-    private int faultKind = NONE;
-    private int faultPlace = NONE;
     private Yard yard = new Yard();
     private Yard spareYard = new Yard();
     private Orders orders = new Orders();
@@ -69,7 +67,6 @@ public final class SnowForts {
     private final boolean[] winning = new boolean[GAME_STATES];
     private final Runner latestRun = new Runner();
     private final Runner trialRun = new Runner();
-    private boolean hasRun;
 
     public SnowForts() {
     }
@@ -202,7 +199,7 @@ public final class SnowForts {
             return refuse(BAD_NUMBER);
         }
         boolean taken = yardText.parse(n, spareYard);
-        endReading();
+        reader.filled = 0;
         if (!taken) {
             return refuse(FAULTY);
         }
@@ -218,7 +215,7 @@ public final class SnowForts {
             return refuse(BAD_NUMBER);
         }
         boolean taken = ordersText.parse(n, yard, spareOrders);
-        endReading();
+        reader.filled = 0;
         if (!taken) {
             return refuse(FAULTY);
         }
@@ -228,17 +225,11 @@ public final class SnowForts {
         return answer(orders.steps);
     }
 
-    private void endReading() {
-        reader.filled = 0;
-        faultKind = reader.fault;
-        faultPlace = reader.faultPlace;
-    }
-
     public int fault(int what) {
         if (what == 0) {
-            return faultKind;
+            return reader.fault;
         }
-        return what == 1 ? faultPlace : NONE;
+        return what == 1 ? reader.faultPlace : NONE;
     }
 
     public int many(int what) {
@@ -561,7 +552,6 @@ public final class SnowForts {
             return refuse(THERE_IS_NONE);
         }
         latestRun.perform(orders, yard, walk, seed);
-        hasRun = true;
         return answer(latestRun.done);
     }
 
@@ -569,7 +559,7 @@ public final class SnowForts {
         if (!isWithin(what, 0, 3)) {
             return refuse(BAD_NUMBER);
         }
-        return hasRun ? answer(latestRun.tell(what)) : refuse(THERE_IS_NONE);
+        return latestRun.done == NONE ? refuse(THERE_IS_NONE) : answer(latestRun.tell(what));
     }
 
     public boolean peaces(int seed, int many) {
@@ -720,6 +710,7 @@ public final class SnowForts {
         private final int[] places = new int[TOKENS];
         /** Of a number how much it is, of a word its letters as a number (0 if it is too long for a name). */
         private final long[] values = new long[TOKENS];
+        private final Word[] words = new Word[TOKENS];
         private int length;
         private int next;
         private int token;
@@ -731,8 +722,9 @@ public final class SnowForts {
         /** The latest number that was taken, and its place. */
         int number;
         int numberPlace;
-        int fault;
-        int faultPlace;
+        /** Of the latest text that was read: 0, NONE without a fault; NONE ahead of any. */
+        int fault = NONE;
+        int faultPlace = NONE;
 
         void append(int four) {
             for (int shift = 24; shift >= 0; shift -= 8) {
@@ -755,10 +747,12 @@ public final class SnowForts {
                 passBlanks();
                 places[i] = next;
                 values[i] = 0;
+                words[i] = null;
                 kinds[i] = kindHere();
                 ended = kinds[i] == END;
                 if (kinds[i] == WORD) {
                     values[i] = passWord();
+                    words[i] = Word.of(values[i]);
                 } else if (kinds[i] == NUMBER) {
                     values[i] = passNumber();
                     kinds[i] = next - places[i] > LONGEST_NUMBER ? NO_TOKEN : NUMBER;
@@ -830,7 +824,7 @@ public final class SnowForts {
                 kind = kinds[token];
                 place = places[token];
                 value = values[token];
-                word = kind == WORD ? Word.of(value) : null;
+                word = words[token];
             }
         }
 
@@ -1739,16 +1733,17 @@ public final class SnowForts {
         }
 
         private boolean takeStorm(Orders into) {
-            if (!takeAmount(into, 0, MOST_AT_ONCE) || !Orders.isItem(item)) {
+            if (!reader.takeNumber(0, MOST_AT_ONCE)) {
                 return false;
             }
             int first = reader.number;
             int firstPlace = reader.numberPlace;
-            if (!reader.take(Word.TO) || !reader.takeNumber(0, MOST_AT_ONCE)) {
+            if (!reader.take(Word.TO) || !reader.takeNumber(0, MOST_AT_ONCE) || !Orders.isItem(item)) {
                 return false;
             }
+            into.amounts[item] = first;
             into.seconds[item] = reader.number;
-            // The document says that the first number can't be above the second, so the fault is the first's.
+            // It is the first number that may not be above the second, so the fault is the first one's.
             return first <= reader.number || reader.fail(Reader.BAD_VALUE, firstPlace);
         }
 
@@ -1812,7 +1807,8 @@ public final class SnowForts {
         // 300 steps, each with three ends behind it, or an empty loop of 99 rounds, are far fewer.
         static final int MOST_TURNS = 1000000;
 
-        int done;
+        /** How many steps; NONE ahead of any run. */
+        int done = NONE;
         private int missed;
         private int built;
         private int broken;
@@ -1959,13 +1955,35 @@ public final class SnowForts {
         private final int[] heights = new int[CELLS];
         /** From each cell on, by the best way: the cost times COST, and the cells. */
         private final int[] weights = new int[CELLS];
+        private int wide;
+        private int high;
         private int beginning;
+        private int cost;
 
         int costOver(Yard yard) {
-            for (int cell = 0; cell < CELLS; cell++) {
-                heights[cell] = yard.topOf(cell);
-                weights[cell] = FAR;
+            // Orders may ask for the way again and again while no top has changed.
+            if (comesTo(yard)) {
+                weigh(yard);
+                begin();
             }
+            return cost;
+        }
+
+        /** Takes the yard's size and tops: whether they are others than the latest. */
+        private boolean comesTo(Yard yard) {
+            boolean isOther = wide != yard.wide || high != yard.high;
+            wide = yard.wide;
+            high = yard.high;
+            for (int cell = 0; cell < CELLS; cell++) {
+                int top = yard.topOf(cell);
+                isOther |= heights[cell] != top;
+                heights[cell] = top;
+            }
+            return isOther;
+        }
+
+        private void weigh(Yard yard) {
+            Arrays.fill(weights, FAR);
             boolean lighter = true;
             // A best way has no cell twice, so as many rounds as there are cells find all.
             for (int round = 0; round <= CELLS && lighter; round++) {
@@ -1978,6 +1996,9 @@ public final class SnowForts {
                     }
                 }
             }
+        }
+
+        private void begin() {
             int least = FAR;
             for (int first = 0; first < CELLS; first += SIDE) {
                 int weight = costOfStep(0, heights[first]) * COST + weights[first];
@@ -1986,7 +2007,7 @@ public final class SnowForts {
                     beginning = first;
                 }
             }
-            return least / COST;
+            cost = least / COST;
         }
 
         private static int costOfStep(int from, int to) {
@@ -2013,7 +2034,7 @@ public final class SnowForts {
         }
 
         private int weightBy(int cell, int to) {
-            if (!isWithin(cell, 0, CELLS - 1) || !isWithin(to, 0, CELLS - 1)) {
+            if (cell < 0 || cell >= CELLS || to < 0 || to >= CELLS) {
                 return FAR;
             }
             return costOfStep(heights[cell], heights[to]) * COST + weights[to];
