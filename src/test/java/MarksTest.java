@@ -4,6 +4,7 @@ public final class MarksTest {
         marksAreCounted();
         allIsTakenBack();
         ordersAreTakenBack();
+        partsOfOrdersAreTakenBack();
         anotherYardIsTakenBack();
         whatIsNoPartStays();
         Check.end("MarksTest");
@@ -57,6 +58,8 @@ public final class MarksTest {
         x.fall(11);
         x.thaw(0);
         x.ice(1, 1);
+        x.build(1, 0, 3);
+        x.steal(3, 1, 0, 0, 1);
         x.look(0, 0);
         String then = told(x);
         Check.due("mark()", x, x.mark(), 1, 0);
@@ -67,6 +70,9 @@ public final class MarksTest {
         x.thaw(3);
         x.night();
         x.ice(0, 0);
+        Check.yard(x, "wide 4 high 2;school c hands 5;no wall above 0;snow 1 1 deep 3;");
+        x.night();
+        x.build(1, 1, 3);
         Check.due("all is other", told(x).equals(then), false);
         Check.due("back()", x, x.back(), 0, 0);
         Check.due("all is as then", told(x).equals(then), true);
@@ -84,6 +90,26 @@ public final class MarksTest {
         Check.due("day", x.many(3), 0);
         x.back();
         Check.due("none", x, x.run(0), -1, 8);
+    }
+
+    /** All that a step can say is there again: numbers, cells, signs, how far a loop goes. */
+    private static void partsOfOrdersAreTakenBack() {
+        String orders = "storm 1 to 9;build 0 0 by 3;steal 0 1 from 3 0 by 4;ice 1 1;loop 2;when day<1;night;end;end;"
+            + "when wall 0 0>2;fall 2;end;";
+        SnowForts x = Check.forts(YARD);
+        Check.due("taken", Check.orders(x, orders), 9);
+        x.mark();
+        int steps = x.run(77);
+        String due = told(x);
+        x.back();
+        x.mark();
+        Check.orders(x, "loop 9;when way=3;when wall 2 1<3;end;end;end;build 2 0 by 1;steal 2 0 from 0 0 by 1;ice 2 0;"
+            + "storm 2 to 2;storm 3 to 3;fall 9;thaw 9;night;night;night;");
+        Check.due("others", x.status(), 0);
+        x.run(1);
+        x.back();
+        Check.due("steps", x.run(77), steps);
+        Check.due("all is as by the first run", told(x).equals(due), true);
     }
 
     private static void anotherYardIsTakenBack() {

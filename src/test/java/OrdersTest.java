@@ -199,9 +199,9 @@ public final class OrdersTest {
     private static void stormsAreDrawn() {
         for (int seed = 0; seed < 10000; seed += 777) {
             SnowForts x = Check.forts("wide 2 high 1;");
-            Check.orders(x, "loop 4;storm 3 to 9;thaw 40;storm 5 to 5;storm 0 to 40;thaw 40;end;");
+            Check.orders(x, "storm 0 to 0;loop 4;storm 3 to 9;thaw 40;storm 5 to 5;storm 0 to 40;thaw 40;end;");
             x.run(seed);
-            int s = seed;
+            int s = (seed * 2741 + 9337) % 65536;
             int fell = 0;
             for (int round = 0; round < 4; round++) {
                 s = (s * 2741 + 9337) % 65536;

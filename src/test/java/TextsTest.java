@@ -6,6 +6,7 @@ public final class TextsTest {
         tapeIsFed();
         yardIsTaken();
         yardTakesPlace();
+        yardsFollowOneAnother();
         yardNeedsItsBytes();
         tokens();
         faultsOfTheSize();
@@ -89,6 +90,56 @@ public final class TextsTest {
         Check.due("no ice", x.cell(0, 0, 5), 0);
     }
 
+    private static String told(SnowForts x) {
+        StringBuilder all = new StringBuilder();
+        for (int what = 0; what < 10; what++) {
+            all.append(x.many(what)).append(' ');
+        }
+        for (int cell = 0; cell < 36; cell++) {
+            for (int what = 0; what < 6; what++) {
+                all.append(x.cell(cell % 6, cell / 6, what)).append(' ');
+            }
+        }
+        for (int what = 0; what < 5; what++) {
+            all.append(x.school(0, what)).append(' ').append(x.school(1, what)).append(' ');
+            all.append(x.article(what)).append(' ').append(x.breach(what)).append(' ');
+        }
+        return all.append(x.hiding(0)).append(' ').append(x.hiding(1)).append(' ').append(x.back()).toString();
+    }
+
+    /** After two yards with all that can be in them, a third one is as on a new object. */
+    private static void yardsFollowOneAnother() {
+        String full = "wide 6 high 6;school a hands 40;school b hands 39;snow 0 0 deep 99;snow 5 5 deep 9;wall 0 1 tall 5;"
+            + "wall 5 4 tall 5;wall 0 0 tall 3;sun 0 1 by 2;sun 3 3 by 9;no wall above 0;no build behind 0;no steal;"
+            + "no ice above 0;";
+        String[] next = {"wide 6 high 6;", "wide 6 high 6;school b hands 1;wall 0 0 tall 2;wall 5 5 tall 1;",
+            "wide 2 high 1;school b hands 3;school a hands 4;snow 1 0 deep 1;sun 0 0 by 1;", full};
+        for (String last : next) {
+            SnowForts x = new SnowForts();
+            for (int i = 0; i < 3; i++) {
+                Check.due("a full yard", Check.yard(x, full), 36);
+                x.build(0, 0, 9);
+                x.ice(0, 0);
+                x.ice(5, 4);
+                x.look(0, 1);
+                x.look(0, 0);
+                x.steal(5, 5, 0, 0, 5);
+                x.fall(40);
+                x.night();
+                x.build(0, 0, 9);
+                x.thaw(1);
+                x.ice(0, 0);
+                x.look(0, 0);
+                x.look(0, 1);
+            }
+            Check.yard(x, "wide 6 high 6;snow 0 0 deep");
+            Check.due("cut short", x.fault(0), 2);
+            Check.yard(x, last);
+            Check.due("taken", x, x.many(4), 0, 0);
+            Check.due("as on a new object: " + last, told(x).equals(told(Check.forts(last))), true);
+        }
+    }
+
     private static void yardNeedsItsBytes() {
         SnowForts x = new SnowForts();
         int n = Check.put(x, PLAIN);
@@ -154,7 +205,7 @@ public final class TextsTest {
             "day", "breach", "way", "loop", "end", "stop"}) {
             fault("a name that is a word", PLAIN + "school " + word + " hands 1;", 2, 21);
             SnowForts x = new SnowForts();
-            Check.due("nearly a word", Check.yard(x, PLAIN + "school " + word + "x hands 1;"), 12);
+            Check.due("nearly a word", Check.yard(x, PLAIN + "school " + word + "z hands 1;"), 12);
         }
         fault("a name that is taken", PLAIN + "school ab hands 1;school ab hands 1;", 3, 39);
         SnowForts x = new SnowForts();

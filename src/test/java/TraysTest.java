@@ -121,6 +121,7 @@ public final class TraysTest {
         x.write(1, 0, -1);
         Check.due("read(1, 0) of -1", x, x.read(1, 0), -1, 0);
         Check.due("read(1, 1)", x, x.read(1, 1), -1, 4);
+        Check.due("read(1, 0) behind one that fails", x, x.read(1, 0), -1, 0);
         Check.due("read(1, most)", x, x.read(1, Integer.MAX_VALUE), -1, 4);
     }
 

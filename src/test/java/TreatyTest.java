@@ -95,6 +95,7 @@ public final class TreatyTest {
         x = Check.forts("wide 2 high 2;snow 0 0 deep 99;snow 0 1 deep 99;wall 0 1 tall 99;");
         Check.due("more than 99", x, x.level(0), -1, 9);
         Check.due("a half of no snow", x, x.level(1), 0, 0);
+        Check.due("a half of one cell", Check.forts("wide 2 high 1;snow 0 0 deep 7;wall 0 0 tall 9;").level(0), 0);
     }
 
     /** The fewest units by trying all that three cells can become. */

@@ -13,6 +13,7 @@ public final class WayTest {
         flatWays();
         stepsDown();
         firstOfSeveral();
+        windingWay();
         wayAtTells();
         peaceIsTold();
         waysByTrials();
@@ -70,6 +71,28 @@ public final class WayTest {
         Check.due("no more cells", x.wayAt(5, 0), -1);
     }
 
+    /** A yard of walls with one path that turns back to the left. */
+    private static void windingWay() {
+        String[] rows = {"0 1 2 3 4", "4", "1 2 3 4", "1", "1 2 3 4 5"};
+        SnowForts x = new SnowForts();
+        StringBuilder text = new StringBuilder("wide 6 high 5;");
+        for (int y = 0; y < 5; y++) {
+            for (int column = 0; column < 6; column++) {
+                if (rows[y].indexOf('0' + column) < 0) {
+                    text.append("wall ").append(column).append(' ').append(y).append(" tall 99;");
+                }
+            }
+        }
+        Check.due("taken", Check.yard(x, text.toString()), 30);
+        Check.due("no cost", x, x.way(), 0, 0);
+        String way = "00 10 20 30 40 41 42 32 22 12 13 14 24 34 44 54";
+        for (int k = 0; k < 16; k++) {
+            Check.due("winding: x " + k, x.wayAt(k, 0), way.charAt(3 * k) - '0');
+            Check.due("winding: y " + k, x.wayAt(k, 1), way.charAt(3 * k + 1) - '0');
+        }
+        Check.due("its cells", x, x.wayAt(16, 0), -1, 8);
+    }
+
     private static void wayAtTells() {
         SnowForts x = Check.forts("wide 2 high 2;");
         Check.due("not asked", x, x.wayAt(0, 0), -1, 8);
@@ -88,6 +111,16 @@ public final class WayTest {
         x.way();
         Check.due("by the next one", x, x.wayAt(3, 0), 3, 0);
         Check.due("by the next one", x, x.wayAt(3, 1), 1, 0);
+        Check.due("no more cells than its own", x, x.wayAt(4, 0), -1, 8);
+        Check.yard(x, "wide 2 high 1;");
+        x.way();
+        Check.due("a shorter one", x, x.wayAt(2, 0), -1, 8);
+        Check.yard(x, "wide 6 high 1;");
+        x.way();
+        Check.due("only wider", x, x.wayAt(5, 0), 5, 0);
+        Check.yard(x, "wide 6 high 2;snow 0 0 deep 1;");
+        x.way();
+        Check.due("another row", x, x.wayAt(5, 1), 1, 0);
     }
 
     private static void peaceIsTold() {
