@@ -836,7 +836,9 @@ public final class SnowForts {
 
         /** The token can't stand here. */
         boolean misfit() {
-            return fail(kind == NO_TOKEN ? NO_TOKEN : CANNOT_STAND, place);
+            fault = kind == NO_TOKEN ? NO_TOKEN : CANNOT_STAND;
+            faultPlace = place;
+            return false;
         }
 
         boolean take(Word wanted) {
@@ -1962,10 +1964,23 @@ public final class SnowForts {
 
         int costOver(Yard yard) {
             // Orders may ask for the way again and again while no top has changed.
-            if (comesTo(yard)) {
-                weigh(yard);
-                begin();
+            if (!comesTo(yard)) {
+                return cost;
             }
+            Arrays.fill(weights, FAR);
+            boolean lighter = true;
+            // A best way has no cell twice, so as many rounds as there are cells find all.
+            for (int round = 0; round <= CELLS && lighter; round++) {
+                lighter = false;
+                for (int cell = CELLS - 1; cell >= 0; cell--) {
+                    int weight = weightFrom(yard, cell);
+                    if (weight < weights[cell]) {
+                        weights[cell] = weight;
+                        lighter = true;
+                    }
+                }
+            }
+            begin();
             return cost;
         }
 
@@ -1982,22 +1997,7 @@ public final class SnowForts {
             return isOther;
         }
 
-        private void weigh(Yard yard) {
-            Arrays.fill(weights, FAR);
-            boolean lighter = true;
-            // A best way has no cell twice, so as many rounds as there are cells find all.
-            for (int round = 0; round <= CELLS && lighter; round++) {
-                lighter = false;
-                for (int cell = CELLS - 1; cell >= 0; cell--) {
-                    int weight = weightFrom(yard, cell);
-                    if (weight < weights[cell]) {
-                        weights[cell] = weight;
-                        lighter = true;
-                    }
-                }
-            }
-        }
-
+        /** The best cell on the left edge, and the cost from there on. */
         private void begin() {
             int least = FAR;
             for (int first = 0; first < CELLS; first += SIDE) {
