@@ -963,7 +963,9 @@ public final class SnowForts {
         }
 
         private boolean isIn(int half, int cell) {
-            return cell % SIDE < wide && cell / SIDE < high && halfOf(cell) == half;
+            int x = cell % SIDE;
+            boolean isLeft = x < wide / 2;
+            return x < wide && cell / SIDE < high && isLeft == (half == 0);
         }
 
         boolean isOwned(int x, int y) {
@@ -1133,8 +1135,9 @@ public final class SnowForts {
             }
             int half = halfOf(cell);
             int units = Math.min(Math.min(n, handsLeft(half)), Math.min(snow[cell], FULL - wall[cell]));
+            int limit = wallLimit(cell);
             for (int i = 0; i < units; i++) {
-                raisesOne(cell, half);
+                raisesOne(cell, half, limit);
             }
             if (units > 0) {
                 known[cell] = false;
@@ -1142,8 +1145,8 @@ public final class SnowForts {
             return units;
         }
 
-        private void raisesOne(int cell, int half) {
-            if (wall[cell] >= wallLimit(cell)) {
+        private void raisesOne(int cell, int half, int limit) {
+            if (wall[cell] >= limit) {
                 breaks(half, WALL_ARTICLE, cell);
             }
             if (lawfulHands(half) == 0) {
@@ -1155,7 +1158,7 @@ public final class SnowForts {
         }
 
         private void breaks(int half, int article, int cell) {
-            if (allBreaches() == 0) {
+            if (broken[0] + broken[1] == 0) {
                 first[0] = half;
                 first[1] = article;
                 first[2] = day;
