@@ -895,8 +895,9 @@ public final class SnowForts {
         final int[] wall = new int[CELLS];
         final int[] sun = new int[CELLS];
         final int[] lastWall = new int[CELLS];
-        final boolean[] iced = new boolean[CELLS];
-        final boolean[] known = new boolean[CELLS];
+        /** 1 where a wall is iced, where a look made known whether it is; else 0. */
+        final int[] iced = new int[CELLS];
+        final int[] known = new int[CELLS];
 
         void clear() {
             wide = 2;
@@ -915,10 +916,8 @@ public final class SnowForts {
             Arrays.fill(wall, 0);
             Arrays.fill(sun, 0);
             Arrays.fill(lastWall, 0);
-            for (int cell = 0; cell < CELLS; cell++) {
-                iced[cell] = false;
-                known[cell] = false;
-            }
+            Arrays.fill(iced, 0);
+            Arrays.fill(known, 0);
         }
 
         void copyOf(Yard other) {
@@ -1040,7 +1039,7 @@ public final class SnowForts {
                 case 4:
                     return halfOf(cell);
                 default:
-                    return iced[cell] ? 1 : 0;
+                    return iced[cell];
             }
         }
 
@@ -1065,9 +1064,7 @@ public final class SnowForts {
         private int icedCells(int half) {
             int count = 0;
             for (int cell = 0; cell < CELLS; cell++) {
-                if (isIn(half, cell) && iced[cell]) {
-                    count++;
-                }
+                count += isIn(half, cell) ? iced[cell] : 0;
             }
             return count;
         }
@@ -1116,11 +1113,11 @@ public final class SnowForts {
 
         private int meltsAt(int cell, int n) {
             int ofSnow = Math.min(n, snow[cell]);
-            int ofWall = iced[cell] ? 0 : Math.min(n - ofSnow, wall[cell]);
+            int ofWall = iced[cell] == 1 ? 0 : Math.min(n - ofSnow, wall[cell]);
             snow[cell] -= ofSnow;
             wall[cell] -= ofWall;
-            iced[cell] = false;
-            known[cell] = false;
+            iced[cell] = 0;
+            known[cell] = 0;
             return ofSnow + ofWall;
         }
 
@@ -1140,7 +1137,7 @@ public final class SnowForts {
                 raisesOne(cell, half, limit);
             }
             if (units > 0) {
-                known[cell] = false;
+                known[cell] = 0;
             }
             return units;
         }
@@ -1173,11 +1170,11 @@ public final class SnowForts {
                 return false;
             }
             int half = halfOf(cell);
-            if (wall[cell] < 1 || iced[cell] || handsLeft(half) < 2) {
+            if (wall[cell] < 1 || iced[cell] == 1 || handsLeft(half) < 2) {
                 return false;
             }
-            iced[cell] = true;
-            known[cell] = false;
+            iced[cell] = 1;
+            known[cell] = 0;
             used[half] += 2;
             int limit = articles[ICE_ARTICLE];
             if (limit != NONE && icedCells(half) > limit) {
@@ -1203,8 +1200,8 @@ public final class SnowForts {
             used[half] += busy;
             snow[from] -= units;
             heaps(cell, units);
-            known[cell] = false;
-            known[from] = false;
+            known[cell] = 0;
+            known[from] = 0;
             return units;
         }
 
@@ -1366,7 +1363,7 @@ public final class SnowForts {
             int wallLeft = wall[cell];
             for (int i = 0; i < days; i++) {
                 int ofSnow = Math.min(eachDay, snowLeft);
-                boolean isProtected = i == 0 && iced[cell];
+                boolean isProtected = i == 0 && iced[cell] == 1;
                 snowLeft -= ofSnow;
                 wallLeft -= isProtected ? 0 : Math.min(eachDay - ofSnow, wallLeft);
             }
@@ -1379,14 +1376,14 @@ public final class SnowForts {
             if (!holds(cell)) {
                 return false;
             }
-            known[cell] = true;
-            return iced[cell];
+            known[cell] = 1;
+            return iced[cell] == 1;
         }
 
         int hidingCells(int half) {
             int count = 0;
             for (int cell = 0; cell < CELLS; cell++) {
-                if (isIn(half, cell) && wall[cell] > 0 && !known[cell]) {
+                if (isIn(half, cell) && wall[cell] > 0 && known[cell] == 0) {
                     count++;
                 }
             }
