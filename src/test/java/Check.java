@@ -74,6 +74,24 @@ final class Check {
         }
     }
 
+    /** A text that is not taken: which fault, and where; the tape is empty behind it. */
+    static void faulty(String why, SnowForts forts, boolean isYard, String text, int kind, int place) {
+        String what = why + " (" + text + ")";
+        due(what, forts, isYard ? yard(forts, text) : orders(forts, text), -1, 10);
+        due(what + ": fault(0)", forts.fault(0), kind);
+        due(what + ": fault(1)", forts.fault(1), place);
+        due(what + ": the tape is empty", forts, forts.yard(1), -1, 5);
+    }
+
+    /** A text that is taken, and what the call answers then. */
+    static void taken(String why, SnowForts forts, boolean isYard, String text, int answer) {
+        String what = why + " (" + text + ")";
+        due(what, forts, isYard ? yard(forts, text) : orders(forts, text), answer, 0);
+        due(what + ": fault(0)", forts.fault(0), 0);
+        due(what + ": fault(1)", forts.fault(1), -1);
+        due(what + ": the tape is empty", forts, forts.yard(1), -1, 5);
+    }
+
     static void end(String name) {
         System.out.println(name + ": " + asked + " answers, " + wrong + " not as due");
         if (wrong != 0) {
