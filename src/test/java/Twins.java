@@ -103,7 +103,7 @@ final class Twins {
         SnowForts fresh = new SnowForts();
         call.applyAsLong(fresh);
         if (fresh.status() != 0 && fresh.status() != 10) {
-            same(what + ", on a new object", fresh, new SnowForts());
+            alike(what + ", on a new object", fresh, new SnowForts());
         }
     }
 
@@ -119,7 +119,7 @@ final class Twins {
         past.accept(asked);
         past.accept(other);
         Check.due(what, asked, call.applyAsLong(asked), -1, status);
-        same(what, asked, other);
+        alike(what, asked, other);
     }
 
     static void denied(String what, int status, Consumer<SnowForts> past, Predicate<SnowForts> call) {
@@ -136,10 +136,11 @@ final class Twins {
         int n = Check.put(asked, text);
         Check.due("a FAULT: " + text, asked, isYard ? asked.yard(n) : asked.orders(n), -1, 10);
         asked.yard(0);
-        same("behind the FAULT of " + text, asked, other);
+        alike("behind the FAULT of " + text, asked, other);
     }
 
-    private static void same(String what, SnowForts asked, SnowForts other) {
+    /** Both tell the same, whatever they are asked. */
+    static void alike(String what, SnowForts asked, SnowForts other) {
         String[] got = allOf(asked).split("\n");
         String[] want = allOf(other).split("\n");
         Check.due(what + ": lines told", got.length, want.length);
