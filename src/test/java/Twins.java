@@ -44,7 +44,7 @@ final class Twins {
     }
 
     /** The whole of what an object tells, its changes by a run, by marks taken back, by its tape. */
-    private static String allOf(SnowForts x) {
+    static String allOf(SnowForts x) {
         StringBuilder all = new StringBuilder();
         told(x, all);
         traysOf(x, all);
