@@ -16,6 +16,9 @@ public final class WayEdgesTest {
         upAheadOfLeft();
         noWayAskew();
         longestWay();
+        eachRowOfEachSize();
+        anotherSizeOfTheSameTops();
+        allTopsAtOnce();
         wayAtByTheLatest();
         wayAtOfWhich();
         peaceBy4();
@@ -94,6 +97,74 @@ public final class WayEdgesTest {
         costIs("wide 2 high 1;snow 1 0 deep 99;wall 1 0 tall 99;", 200);
         costIs("wide 4 high 1;snow 0 0 deep 99;wall 0 0 tall 99;snow 2 0 deep 99;wall 2 0 tall 99;", 198 + 2 + 198 + 2);
         costIs("wide 6 high 1;snow 0 0 deep 99;wall 0 0 tall 99;snow 2 0 deep 99;wall 2 0 tall 99;snow 4 0 deep 99;wall 4 0 tall 99;", 600);
+    }
+
+    /** One row alone is low: the way goes along it, to the last cell of all, too. */
+    private static void eachRowOfEachSize() {
+        for (int wide = 2; wide <= 6; wide += 2) {
+            for (int high = 1; high <= 6; high++) {
+                for (int row = 0; row < high; row++) {
+                    String[] rows = new String[high];
+                    StringBuilder cells = new StringBuilder();
+                    for (int y = 0; y < high; y++) {
+                        rows[y] = (y == row ? "0" : "9").repeat(wide);
+                    }
+                    for (int column = 0; column < wide; column++) {
+                        cells.append(column).append(row).append(' ');
+                    }
+                    SnowForts x = yardOf(rows);
+                    Check.due("along the row " + row, x, x.way(), 0, 0);
+                    wayIs(x, "along the row " + row, cells.toString().trim());
+                    Check.due("peace()", x, x.peace(), 1, 0);
+                }
+            }
+        }
+    }
+
+    /** The COST is of this YARD, though its tops are those of the one ahead. */
+    private static void anotherSizeOfTheSameTops() {
+        SnowForts x = Check.forts("wide 2 high 1;wall 0 0 tall 9;");
+        Check.due("over the wall", x, x.way(), 11, 0);
+        Check.yard(x, "wide 2 high 2;wall 0 0 tall 9;");
+        Check.due("below the wall", x, x.way(), 0, 0);
+        Check.yard(x, "wide 2 high 1;wall 0 0 tall 9;");
+        Check.due("peace()", x, x.peace(), 0, 0);
+        Check.yard(x, "wide 2 high 2;wall 0 0 tall 9;");
+        Check.due("peace()", x, x.peace(), 1, 0);
+        Check.yard(x, "wide 2 high 1;snow 1 0 deep 5;");
+        Check.due("5 up, 5 down out of the yard", x, x.way(), 7, 0);
+        wayIs(x, "two cells", "00 10");
+        Check.yard(x, "wide 4 high 1;snow 1 0 deep 5;");
+        Check.due("5 up, 5 down", x, x.way(), 7, 0);
+        wayIs(x, "four cells", "00 10 20 30");
+        Check.yard(x, "wide 6 high 1;snow 1 0 deep 5;");
+        Check.due("peace()", x, x.peace(), 0, 0);
+        Check.due("the latest way() was another yard's", x, x.wayAt(4, 0), -1, 8);
+        Check.due("5 up, 5 down", x, x.way(), 7, 0);
+        wayIs(x, "six cells", "00 10 20 30 40 50");
+    }
+
+    /** Each top of the greatest yard has changed behind the latest COST. */
+    private static void allTopsAtOnce() {
+        SnowForts x = new SnowForts();
+        Check.yard(x, "wide 6 high 6;");
+        int[] costs = {0, 1, 3, 6, 10, 15, 21};
+        for (int n = 0; n < costs.length; n++) {
+            x.fall(n);
+            int due = costs[n] + (costs[n] > 3 ? 2 : 0);
+            Check.due("way() behind a FALL of " + n, x, x.way(), due, 0);
+            Check.due("peace()", x, x.peace(), due <= 4 ? 1 : 0, 0);
+        }
+        for (int n = costs.length - 1; n >= 0; n--) {
+            Check.due("way() ahead of a THAW of " + n, x, x.way(), costs[n] + (costs[n] > 3 ? 2 : 0), 0);
+            x.thaw(n);
+        }
+        Check.orders(x, "when way=0;fall 3;when way=3;fall 4;when way=9;night;end;end;end;");
+        Check.due("each test by the tops of then", x.run(0), 6);
+        Check.due("a night", x.many(3), 1);
+        Check.due("peace()", x, x.peace(), 0, 0);
+        x.thaw(7);
+        Check.due("peace()", x, x.peace(), 1, 0);
     }
 
     private static void fewestCellsOfTheLeastCost() {
