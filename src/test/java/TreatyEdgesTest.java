@@ -20,6 +20,7 @@ public final class TreatyEdgesTest {
         levelByTheSnowThereIs();
         levelBy99();
         levelThatCantBe();
+        levelByTheWallsOfNow();
         levelOfAllCells();
         levelOfWhichHalf();
         unlikeCouples();
@@ -28,6 +29,7 @@ public final class TreatyEdgesTest {
         lastingSun();
         lastingIce();
         lastingOfWhom();
+        lastingByTheWallsOfNow();
         askingChangesNothing();
         Check.end("TreatyEdgesTest");
     }
@@ -264,6 +266,26 @@ public final class TreatyEdgesTest {
         Check.due("without any", x, x.level(1), 0, 0);
     }
 
+    /** The last night's WALLS do not count, be they lower or higher than those of now. */
+    private static void levelByTheWallsOfNow() {
+        SnowForts x = Check.forts("wide 2 high 2;school a hands 40;snow 0 0 deep 9;");
+        Check.due("4 can go", x, x.level(0), 4, 0);
+        x.build(0, 0, 4);
+        Check.due("4 can go yet", x, x.level(0), 4, 0);
+        x.build(0, 0, 2);
+        Check.due("no more than 3 can go", x, x.level(0), -1, 9);
+        x.night();
+        x.thaw(9);
+        x.fall(3);
+        Check.due("the last night's WALL was 6", x.cell(0, 0, 3), 6);
+        Check.due("all are 3", x, x.level(0), 0, 0);
+        x = Check.forts("wide 2 high 1;school a hands 40;snow 0 0 deep 99;");
+        x.build(0, 0, 40);
+        x.fall(40);
+        Check.due("SNOW of 99 on a WALL of 40", x.cell(0, 0, 0), 99);
+        Check.due("one CELL alone", x, x.level(0), 0, 0);
+    }
+
     private static void levelOfAllCells() {
         for (int cell = 0; cell < 36; cell++) {
             SnowForts x = Check.forts("wide 6 high 6;snow " + cell % 6 + " " + cell / 6 + " deep 37;");
@@ -339,6 +361,17 @@ public final class TreatyEdgesTest {
         Check.due("the first", x, x.lasting(0, 1, 1), 6, 0);
         Check.due("a half without a SCHOOL", x, x.lasting(1, 1, 1), -1, 2);
         Check.due("2 ahead of 5", x, x.lasting(1, 31, 41), -1, 2);
+    }
+
+    /** What was built today lasts, too; what melted today is gone. */
+    private static void lastingByTheWallsOfNow() {
+        SnowForts x = Check.forts("wide 2 high 1;school a hands 40;school b hands 40;snow 0 0 deep 9;wall 1 0 tall 9;");
+        x.build(0, 0, 9);
+        Check.due("built today", x, x.lasting(0, 2, 3), 3, 0);
+        Check.due("built today", x, x.lasting(0, 0, 0), 9, 0);
+        x.thaw(5);
+        Check.due("melted today", x, x.lasting(1, 1, 3), 1, 0);
+        Check.due("melted today", x, x.lasting(1, 0, 0), 4, 0);
     }
 
     private static void askingChangesNothing() {

@@ -18,6 +18,7 @@ public final class WayEdgesTest {
         longestWay();
         eachRowOfEachSize();
         anotherSizeOfTheSameTops();
+        eachSizeBehindEach();
         allTopsAtOnce();
         wayAtByTheLatest();
         wayAtOfWhich();
@@ -142,6 +143,27 @@ public final class WayEdgesTest {
         Check.due("the latest way() was another yard's", x, x.wayAt(4, 0), -1, 8);
         Check.due("5 up, 5 down", x, x.way(), 7, 0);
         wayIs(x, "six cells", "00 10 20 30 40 50");
+    }
+
+    /** Each size behind each other one, with the same tops. */
+    private static void eachSizeBehindEach() {
+        for (int first = 0; first < 18; first++) {
+            for (int second = 0; second < 18; second++) {
+                SnowForts x = Check.forts(lowSnow(first));
+                x.way();
+                Check.yard(x, lowSnow(second));
+                int wide = 2 + 2 * (second % 3);
+                int due = second / 3 == 0 ? 2 : 0;
+                Check.due("the COST", x, x.way(), due, 0);
+                Check.due("its last CELL", x, x.wayAt(wide - 1, 0), wide - 1, 0);
+                Check.due("its last CELL", x, x.wayAt(wide - 1, 1), due == 0 ? 1 : 0, 0);
+                Check.due("none behind that", x, x.wayAt(wide, 0), -1, 8);
+            }
+        }
+    }
+
+    private static String lowSnow(int size) {
+        return "wide " + (2 + 2 * (size % 3)) + " high " + (1 + size / 3) + ";snow 1 0 deep 2;";
     }
 
     /** Each top of the greatest yard has changed behind the latest COST. */
