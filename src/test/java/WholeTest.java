@@ -208,11 +208,7 @@ public final class WholeTest {
             case 20 -> due("most", x.most(half), model.most(half));
             case 21 -> due("lowest", x.lowest(half), model.lowest(half));
             case 22 -> due("highest", x.highest(half), model.highest(half));
-            case 23 -> {
-                // all tops of a half are tried by the model, which takes too long for many cells
-                int some = wide * high > 16 ? 2 : half;
-                due("level", x.level(some), model.level(some));
-            }
+            case 23 -> due("level", x.level(half), model.level(half));
             case 24 -> due("lasting " + days + " " + n, x.lasting(half, days, n), model.lasting(half, days, n));
             case 25 -> due("hiding", x.hiding(half), model.hiding(half));
             case 26 -> due("sure", x.sure(half, iced), model.sure(half, iced));
